@@ -210,6 +210,8 @@ final class AskedEdges {
         x.block(1, 1);
         x.ideal(0);
         x.open(0);
+        Check.due("the others draw", x.foretold(3, 0, 5), 0);
+        Check.due("the others draw", x.till(0) > 5, true);
         x.day(1);
         Check.due("491 is drawn: lost", x.is(4), 1);
         Check.due("what was lost ahead of it is", x.ideal(1), 5);

@@ -10,6 +10,7 @@ final class GotEdges {
         aReportTakesItsCheckpoint();
         aReportWhenNotOpen();
         claimsAddUp();
+        claimsOfAnEarlierReport();
         doneAtTheLastByte();
         theLatestCheckpoint();
         doneTakesItsCheckpoints();
@@ -173,6 +174,30 @@ final class GotEdges {
         Edge.flight(x, 0, 1, 0, 2, 0, 2, 0b111, 0, 12, 0);
         x.day(1);
         Edge.of(x, 0, 3, 3, 2, 0, 3, 3, 2, 2, 5);
+    }
+
+    /** Byte 0 is lost; a REPORT of 2 and 3 takes long, one of 1 to 3, later, is faster. */
+    private static void claimsOfAnEarlierReport() {
+        Edge.sentence("I: those CLAIMS are CLAIMED (what is CLAIMED already stays so)");
+        LongCarrier x = PromiseTest.ruled("loses if clock = 0 then 10 else 0 end; waits if clock = 3 then 9 else 60 end;");
+        x.size(1);
+        x.block(4, 4);
+        x.open(0);
+        int[][] delaysAndTicks = {{2, 1}, {10, 1}, {2, 3}, {20, 1}, {2, 8}, {1, 1}};
+        for (int[] d : delaysAndTicks) {
+            x.delay(d[0]);
+            x.day(d[1]);
+        }
+        Edge.flight(x, 0, 1, 0, 1, 0, 1, 0b1100, 0, 25, 0);
+        Edge.flight(x, 1, 1, 0, 2, 0, 1, 0b1110, 0, 15, 0);
+        x.window(60, 59, 60);
+        x.day(1);
+        Edge.of(x, 0, 4, 4, 1, 0, 3, 3, 2, 2);
+        x.day(10);
+        Check.due("it has come", x.flight(-1, 0), 0);
+        Edge.of(x, 0, 4, 4, 1, 0, 3, 3, 2, 2);
+        Check.due("CLAIMS", x.claims(0, 0, false), 1);
+        Check.due("OUT: two answers and the CHECKPOINT", x.out(0, -1, 0), 3);
     }
 
     private static void doneAtTheLastByte() {
@@ -347,27 +372,50 @@ final class GotEdges {
         Edge.out(x, 1, 0, 1, 1, 1);
         Edge.out(x, 1, 1, 4, 0, 0);
         Check.due("OUT at side 1", x.out(1, -1, 0), 2);
-        // CANCELLED there already: its own cancelling, OUT again as it rang, is gone
-        x = PromiseTest.ruled("loses if clock = 0 then 10 else 0 end; waits if clock = 0 then 2 else 60 end;");
-        x.block(1, 1);
+        // CANCELLED there already: the TIMER of its own cancelling is gone
+        x = PromiseTest.quiet(1, 1);
         x.open(0);
         x.cancel(0, 1);
         x.cancel(0, 0);
-        x.day(1);
-        x.delay(1);
-        x.window(60, 1, 2);
-        x.day(1);
-        Edge.out(x, 0, 0, 3, 0, 0, 0, 0, 0, 1);
-        Edge.out(x, 1, 0, 3, 0, 0, 0, 0, 0, 1);
-        x.window(60, 2, 3);
-        x.day(1);
-        Edge.counts(x, 0, 0, 2, 2);
-        x.cancel(0, 1);
+        x.day(2);
+        Edge.timer(x, 0, 0, 3, 0, 0, 6, 0);
+        Edge.timer(x, 1, 1, 3, 0, 0, 6, 0);
+        x.window(60, 59, 60);
         x.day(1);
         Edge.counts(x, 1, 1, 0, 1);
-        Edge.timer(x, 0, 0, 3, 0, 0, 62, 1);
+        Edge.timer(x, 0, 0, 3, 0, 0, 6, 0);
         Edge.out(x, 1, 0, 4, 0, 0);
         whatRangAtSideOneIsGone();
+        answersAreGone();
+    }
+
+    private static void answersAreGone() {
+        // the same cancelling comes twice while they are hidden: its first answer goes, another is put OUT
+        LongCarrier x = PromiseTest.ruled("loses 0; waits 1;");
+        x.block(1, 1);
+        x.open(0);
+        x.cancel(0, 0);
+        x.day(2);
+        x.window(60, 59, 60);
+        x.day(2);
+        Edge.counts(x, 1, 1, 0, 0);
+        Edge.out(x, 1, 0, 4, 0, 0);
+        // side 1's comes while the answer to a REPORT is OUT at side 0
+        x = PromiseTest.ruled("loses if clock = 0 then 10 else 0 end;");
+        x.size(2);
+        x.block(4, 4);
+        x.open(0);
+        x.day(4);
+        x.cancel(0, 1);
+        x.day(1);
+        x.window(60, 59, 60);
+        x.day(1);
+        Edge.counts(x, 2, 0, 1, 1);
+        Edge.out(x, 0, 0, 2, 0, 1);
+        x.day(1);
+        Edge.of(x, 0, 4, 4, 3, 3);
+        Edge.counts(x, 1, 0, 0, 1);
+        Edge.out(x, 0, 0, 4, 0, 0);
     }
 
     /** The cancelling of side 1 is OUT again at side 1 when that of side 0 comes. */
@@ -427,7 +475,6 @@ final class GotEdges {
         x.open(0);
         x.day(1);
         x.open(2);
-        x.waits(0, 0, 0);
         int[][] lines = {{2, 0, 0, 0}, {2, 4, 0, 0}, {2, 5, 0, 0}, {2, 2, 0, 0}, {3, 0, 2, 0}, {3, 1, 2, 0}};
         for (int i = 0; i < lines.length; i++) {
             Edge.note(x, i, lines[i]);

@@ -315,6 +315,9 @@ final class LineEdges {
         Edge.out(x, 0, 23, 0, 0, 0, 23, 24, 0, 0);
         Check.due("a CHECKPOINT more", x.of(0, 6), 1);
         Check.due("OPEN", x.of(0, 2), 1);
+        x = inOnes(30, 30);
+        Check.due("the 30th has no room", x.open(0), 24);
+        Check.due("a CHECKPOINT more", x.of(0, 6), 1);
     }
 
     private static void roomInAnUsedLine() {
@@ -391,6 +394,7 @@ final class LineEdges {
         Edge.counts(x, 23, 0, 1, 1);
         Edge.out(x, 0, 22, 0, 1, 0, 23, 24, 0, 0);
         Edge.timer(x, 0, 1, 1, 0, 1, 8, 0);
+        answerAheadOfWhatGoes();
         x = inOnes(1, 1);
         x.block(23, 23);
         x.open(0);
@@ -398,6 +402,24 @@ final class LineEdges {
         Check.due("one less", x.open(1), 23);
         x.day(1);
         Edge.out(x, 0, 22, 2, 0, 1, 0, 0, 0, 0);
+    }
+
+    /** The CHECKPOINT is OUT again in a full line when its REPORT comes: the answer is to be put OUT ahead of its going. */
+    private static void answerAheadOfWhatGoes() {
+        LongCarrier x = PromiseTest.ruled("loses 0; waits 3;");
+        x.size(1);
+        x.block(1, 1);
+        x.block(30, 30);
+        x.open(0);
+        x.day(3);
+        Edge.out(x, 0, 0, 0, 0, 1, 0, 1, 0, 1);
+        x.window(60, 59, 60);
+        Check.due("open(1)", x.open(1), 23);
+        x.day(2);
+        Check.due("DONE", x.of(0, 2), 2);
+        Check.due("OUT", x.out(0, -1, 0), 23);
+        Edge.out(x, 0, 0, 0, 1, 0, 0, 1, 0, 0);
+        Edge.out(x, 0, 22, 0, 1, 0, 22, 23, 0, 0);
     }
 
     private static void roomForCancellings() {
@@ -511,6 +533,11 @@ final class LineEdges {
         x = PromiseTest.quiet(5, 1);
         x.open(0);
         Check.due("with one RED byte it is OPEN", x.of(0, 2), 1);
+        x = inOnes(24, 24);
+        x.block(5, 0);
+        x.open(0);
+        Check.due("nothing of it has room", x.open(1), 0);
+        Check.due("DONE for all that", x.of(1, 2), 2);
     }
 
     private static void cancelledWhen() {
@@ -575,6 +602,18 @@ final class LineEdges {
         x = underWay();
         x.cancel(2, 1);
         Edge.counts(x, 2, 1, 3, 3);
+        // an answer to a REPORT that is OUT at side 0, too
+        x = PromiseTest.ruled("loses if clock = 0 then 10 else 0 end;");
+        x.size(2);
+        x.block(4, 4);
+        x.open(0);
+        x.day(5);
+        x.window(60, 59, 60);
+        x.day(1);
+        Edge.out(x, 0, 0, 2, 0, 1);
+        x.cancel(0, 0);
+        Edge.counts(x, 1, 0, 0, 1);
+        Edge.out(x, 0, 0, 3, 0, 0, 0, 0, 0, 0);
         // what came of it to side 1 and is OUT there
         x = underWay();
         x.day(2);

@@ -16,6 +16,9 @@ public final class RobustTest {
     private static final int[] EDGES = {Integer.MIN_VALUE, Integer.MIN_VALUE + 1, -1000, -2, -1, 0, 1, 2, 3, 4, 5, 7, 8, 9, 10,
         15, 16, 19, 20, 23, 24, 25, 29, 30, 31, 39, 40, 41, 59, 60, 61, 299, 300, 301, 999, 1000, 9998, 9999, 10000,
         (1 << 30) - 1, 1 << 30, Integer.MAX_VALUE - 1, Integer.MAX_VALUE};
+    private static final int[] SOME_EDGES = {Integer.MIN_VALUE, -2, -1, 0, 1, 2, 3, 9, 10, 29, 30, 31, 60, 61, (1 << 30) - 1, 1 << 30,
+        Integer.MAX_VALUE};
+    private static final int[] FEW_EDGES = {Integer.MIN_VALUE, -1, 0, 0x64617920};
 
     private RobustTest() {
     }
@@ -28,8 +31,69 @@ public final class RobustTest {
             Check.at("run " + run);
             run(face, new Random(run));
         }
+        Edge.Make[] states = {Edge::fresh, Edge::busy, () -> Edge.at(9999), RobustTest::full};
+        for (int state = 0; state < states.length; state++) {
+            Check.at("state " + state);
+            for (Method method : face) {
+                edgesOf(method, states[state]);
+            }
+        }
         dearRuns();
         Check.close();
+    }
+
+    /** As much of everything as there may be. */
+    private static LongCarrier full() {
+        LongCarrier x = PromiseTest.crowded("loses 0; waits 1;");
+        x.delay(20);
+        x.tries(9);
+        for (int block = 0; block < 3; block++) {
+            x.open(block);
+            x.cancel(block, 1);
+        }
+        x.day(20);
+        for (int n = 0; n < 8; n++) {
+            x.said(n % 5, n);
+        }
+        for (int n = 1; n < 4; n++) {
+            Check.text(x, "loses 1" + "+1".repeat(146) + ";");
+        }
+        Check.tape(x, "(".repeat(300));
+        return x;
+    }
+
+    /** The method with every edge for each of its arguments, in that state; a new object behind each 400 calls. */
+    private static void edgesOf(Method method, Edge.Make state) throws IllegalAccessException {
+        int count = method.getParameterCount();
+        int[] edges = count > 3 ? FEW_EDGES : count == 3 ? SOME_EDGES : EDGES;
+        int combinations = 1;
+        for (int i = 0; i < count; i++) {
+            combinations *= edges.length;
+        }
+        LongCarrier x = state.make();
+        for (int n = 0; n < combinations; n++) {
+            if (n % 400 == 399) {
+                x = state.make();
+            }
+            Object[] arguments = new Object[count];
+            int rest = n;
+            for (int i = 0; i < count; i++) {
+                int edge = edges[rest % edges.length];
+                boolean truth = method.getParameterTypes()[i] == boolean.class;
+                arguments[i] = truth ? (Object) (edge > 0) : (Object) edge;
+                rest /= edges.length;
+            }
+            call(x, method, arguments);
+        }
+    }
+
+    private static void call(LongCarrier x, Method method, Object[] arguments) throws IllegalAccessException {
+        try {
+            method.invoke(x, arguments);
+            Check.due(method.getName(), 0, 0);
+        } catch (InvocationTargetException thrown) {
+            Check.due(method.getName() + java.util.Arrays.toString(arguments) + " threw " + thrown.getCause(), 1, 0);
+        }
     }
 
     private static List<Method> face() {
@@ -59,12 +123,7 @@ public final class RobustTest {
                 boolean truth = method.getParameterTypes()[i] == boolean.class;
                 arguments[i] = truth ? (Object) draw.nextBoolean() : (Object) argument(draw, wild);
             }
-            try {
-                method.invoke(x, arguments);
-                Check.due(method.getName(), 0, 0);
-            } catch (InvocationTargetException thrown) {
-                Check.due(method.getName() + java.util.Arrays.toString(arguments) + " threw " + thrown.getCause(), 1, 0);
-            }
+            call(x, method, arguments);
         }
     }
 

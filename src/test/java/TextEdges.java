@@ -344,6 +344,12 @@ final class TextEdges {
         bad("loses if 1 = 1 = 1 then 2 else 3 end;", 1, 15);
         bad("loses if 1 = not 1 = 1 then 2 else 3 end;", 1, 13);
         bad("loses if and", 1, 9);
+        bad("loses if 1 = 1 or then 2 else 3 end;", 1, 18);
+        bad("loses if 1 = 1 and then 2 else 3 end;", 1, 19);
+        bad("loses if not then 2 else 3 end;", 1, 13);
+        bad("loses if 1 = then 2 else 3 end;", 1, 13);
+        bad("loses if 1 = 1 then else 3 end;", 1, 20);
+        bad("loses if 1 = 1 then 2 else end;", 1, 27);
         bad("loses if 1 = 1 and or", 1, 19);
         bad("loses if 1 = 1 not", 1, 15);
     }

@@ -7,7 +7,7 @@ final class TickEdges {
         comesAtItsClock();
         inTheOrderSent();
         nothingWhileHidden();
-        sideByside();
+        sideBySide();
         aDrawEach();
         belowLoses();
         drawnAnew();
@@ -58,7 +58,7 @@ final class TickEdges {
         x.delay(1);
         x.day(2);
         Edge.flight(x, 0, 1, 0, 1, 0, 1, 0b1111, 0, 3, 0);
-        // the CHECKPOINT of BLOCK 0, sent first, and that of BLOCK 1, both come at 3, while hidden
+        // the CHECKPOINT of BLOCK 1, sent first, and that of BLOCK 0, both come at 3, while hidden
         x = PromiseTest.quiet(1, 1);
         x.block(1, 1);
         x.delay(3);
@@ -102,11 +102,11 @@ final class TickEdges {
         Check.due("nothing is sent", x.is(3), 3);
         Check.due("nothing is drawn", x.is(1), (drawn * 757 + 617) % 31091);
         Check.due("the TIMER of the cancelling doesn't ring", x.timer(0, 1), 3);
-        Check.due("that of the CHECKPOINT went", x.ledger(5), 0);
+        Check.due("nor did that of the CHECKPOINT, which the cancelling took", x.ledger(5), 0);
         Check.due("CLOCK goes on", x.is(0), 7);
     }
 
-    private static void sideByside() {
+    private static void sideBySide() {
         Edge.sentence("I: (2) side 0, then side 1, that has any OUT, sends its first");
         // 491 is drawn for side 0: lost by 2; 30303 for side 1: not
         LongCarrier x = new LongCarrier();

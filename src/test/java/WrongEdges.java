@@ -344,6 +344,8 @@ final class WrongEdges {
             Check.due("loses(2, " + kind + ")", x.loses(2, kind), kind == 1 ? 10 : 0);
         }
         Check.due("of one not told", PromiseTest.carried(0).loses(1, 0), -1);
+        Edge.sentence("Promise 50: loses now, of a MESSAGE of no bytes");
+        Check.due("no bytes", bytesAlone().loses(0, 0), 3);
         Edge.sentence("Promise 51: waits: NONE for others (BLOCKS; 0 .. 4; 0 .. 9)");
         for (int wrong : wrongBlocks) {
             Check.due("waits(" + wrong + ", 0, 0)", x.waits(wrong, 0, 0), -1);
@@ -358,6 +360,12 @@ final class WrongEdges {
             Check.due("waits(2, 4, " + tried + ")", x.waits(2, 4, tried), 4 + tried);
         }
         Check.due("of one not told", PromiseTest.carried(0).waits(1, 0, 0), -1);
+    }
+
+    private static LongCarrier bytesAlone() {
+        LongCarrier x = PromiseTest.ruled("loses bytes + 3;");
+        x.block(9, 9);
+        return x;
     }
 
     private static void ledgerAndAbout() {
