@@ -4,6 +4,7 @@ final class TextEdges {
     }
 
     static void run() {
+        fourTexts();
         threeHundredBytes();
         blanks();
         betweenTokens();
@@ -19,6 +20,7 @@ final class TextEdges {
         whatIsNoLongerOpen();
         whereNoneCanStand();
         namesOfTheClause();
+        whatNamesAre();
         leftToRight();
         capped();
         cuts();
@@ -40,6 +42,30 @@ final class TextEdges {
 
     private static String blanksTo(String text, int length) {
         return text + " ".repeat(length - text.length());
+    }
+
+    private static void fourTexts() {
+        Edge.sentence("II. TEXTS 0 .. 3");
+        LongCarrier x = new LongCarrier();
+        x.block(1, 1);
+        for (int text = 0; text < 4; text++) {
+            Check.due("by, not told", x.by(text), false);
+            Check.due("played, not told", x.played(text), -2);
+            Check.due("with a FAULT it is none", Check.text(x, "loses"), -1);
+            Check.due("text", Check.text(x, "loses " + (text + 3) + "; day " + (text + 1) + ";"), text);
+            Check.due("TEXTS", x.about(1), text + 1);
+        }
+        Check.due("a fifth", Check.text(x, "loses 9;"), -1);
+        int clock = 0;
+        for (int text = 0; text < 4; text++) {
+            Check.due("by", x.by(text), true);
+            Check.due("loses", x.loses(0, 0), text + 3);
+            Check.due("played", x.played(text), -1);
+            clock += text + 1;
+            Check.due("CLOCK", x.is(0), clock);
+        }
+        Check.due("by(4)", x.by(4), false);
+        Check.due("played(4)", x.played(4), -2);
     }
 
     private static void threeHundredBytes() {
@@ -371,6 +397,33 @@ final class TextEdges {
         bad("loses bytes; waits if 1 = bytes", 5, 26);
         bad("tried", 1, 0);
         bad("loses 1 bytes", 1, 8);
+    }
+
+    private static void whatNamesAre() {
+        Edge.sentence("II: NAMES: clock, sun, kind, number (of the BLOCK), delay; tried (at either end)");
+        LongCarrier x = PromiseTest.ruled("waits if kind = 0 then clock / 200 + 1 else if kind = 1 then sun / 200 + 1 else"
+            + " if kind = 2 then number + 5 else if kind = 3 then delay + 5 else tried + kind end end end end;");
+        for (int block = 0; block < 3; block++) {
+            x.block(1, 1);
+        }
+        Check.due("clock at 0", x.waits(0, 0, 0), 1);
+        Check.due("sun at 0", x.waits(0, 1, 0), 1);
+        for (int block = 0; block < 3; block++) {
+            Check.due("number", x.waits(block, 2, 0), block + 5);
+        }
+        for (int delay : new int[] {1, 2, 20}) {
+            x.delay(delay);
+            Check.due("delay", x.waits(0, 3, 0), delay + 5);
+        }
+        for (int tried = 0; tried <= 9; tried++) {
+            Check.due("tried", x.waits(0, 4, tried), tried + 4);
+        }
+        x.window(2, 0, 1);
+        for (int left = 9999; left > 0; left -= 30) {
+            x.day(Math.min(30, left));
+        }
+        Check.due("clock at 9999", x.waits(0, 0, 0), 50);
+        Check.due("sun at 5000", x.waits(0, 1, 0), 26);
     }
 
     /** waits is such, of BLOCK 0 (10 bytes, 6 red), a REPORT, tried 7 times, at CLOCK and SUN 0. */
