@@ -12,7 +12,7 @@ import java.util.TreeSet;
 import java.util.regex.Matcher;
 import java.util.regex.Pattern;
 
-/** The rules of LANGUAGE.md that can be seen without running the class; its argument is the class's file. */
+/** The rules of LANGUAGE.md that can be seen without running the class; its argument is the project's folder. */
 public final class SourceTest {
     private static final Set<String> FACE = Set.of("block", "window", "delay", "size", "tries", "feed", "end", "text", "fault",
         "by", "open", "cancel", "day", "played", "years", "undo", "of", "claims", "gaps", "come", "out", "flight", "timer", "is",
@@ -40,7 +40,7 @@ public final class SourceTest {
             Check.due("rule 2: none deeper in " + type, type.getDeclaredClasses().length, 0);
             checkClass(type);
         }
-        String source = Files.readString(Path.of(args[0]));
+        String source = Files.readString(Path.of(args.length == 0 ? "." : args[0], "src/main/java/LongCarrier.java"));
         words(withoutTexts(source));
         methods(source);
         Check.close();
