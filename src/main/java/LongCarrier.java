@@ -713,13 +713,13 @@ public final class LongCarrier {
 
         Rows(int most, int width) {
             this.width = Math.max(1, width);
-            this.cells = new int[Math.max(0, most) * this.width];
+            this.cells = new int[Math.max(0, most * this.width)];
         }
 
         int get(int i, int column) {
             if (i < 0 || i >= count || column < 0 || column >= width) return OTHER;
             int at = i * width + column;
-            return at < cells.length ? cells[at] : OTHER;
+            return at >= 0 && at < cells.length ? cells[at] : OTHER;
         }
 
         int countOrCell(int i, int column) {
@@ -729,18 +729,18 @@ public final class LongCarrier {
         void put(int i, int column, int value) {
             if (i < 0 || i >= count || column < 0 || column >= width) return;
             int at = i * width + column;
-            if (at < cells.length) cells[at] = value;
+            if (at >= 0 && at < cells.length) cells[at] = value;
         }
 
         void raise(int i, int column, int more) {
             if (i < 0 || i >= count || column < 0 || column >= width) return;
             int at = i * width + column;
-            if (at < cells.length) cells[at] += more;
+            if (at >= 0 && at < cells.length) cells[at] += more;
         }
 
         void addMessage(int kind, int block, int serial, int from, int to, int claims, int tried) {
             int at = count * width;
-            if (width < OUT_WIDTH || at < 0 || at + width > cells.length) return;
+            if (width < OUT_WIDTH || at < 0 || width > cells.length - at) return;
             cells[at + KIND] = kind;
             cells[at + BLOCK] = block;
             cells[at + SERIAL] = serial;
@@ -754,7 +754,7 @@ public final class LongCarrier {
         /** The first of a line, as it is, and when it comes or rings. */
         void addFirstOf(Rows line, int when, int side) {
             int at = count * width;
-            if (width < FLIGHT_WIDTH || at < 0 || at + width > cells.length) return;
+            if (width < FLIGHT_WIDTH || at < 0 || width > cells.length - at) return;
             if (line.width < OUT_WIDTH || line.cells.length < OUT_WIDTH) return;
             System.arraycopy(line.cells, 0, cells, at, OUT_WIDTH);
             cells[at + WHEN] = when;
@@ -770,7 +770,7 @@ public final class LongCarrier {
                 count--;
             }
             int at = count * width;
-            if (at < 0 || at + width > cells.length) return;
+            if (at < 0 || width > cells.length - at) return;
             cells[at] = clock;
             cells[at + 1] = what;
             cells[at + 2] = block;
@@ -779,8 +779,10 @@ public final class LongCarrier {
         }
 
         void remove(int i) {
-            if (i < 0 || i >= count || count * width > cells.length) return;
-            System.arraycopy(cells, (i + 1) * width, cells, i * width, (count - i - 1) * width);
+            int behind = (i + 1) * width;
+            int length = count * width - behind;
+            if (i < 0 || i >= count || behind < width || length < 0 || length > cells.length - behind) return;
+            System.arraycopy(cells, behind, cells, behind - width, length);
             count--;
         }
 
@@ -794,7 +796,7 @@ public final class LongCarrier {
 
         boolean isOf(int i, int block, int kind, int least, int most) {
             int at = i * width;
-            if (i < 0 || i >= count || width < OUT_WIDTH || at + SERIAL >= cells.length) return false;
+            if (i < 0 || i >= count || width < OUT_WIDTH || at < 0 || at >= cells.length - SERIAL) return false;
             int serial = cells[at + SERIAL];
             boolean sameKind = kind == ANY || cells[at + KIND] == kind;
             return cells[at + BLOCK] == block && sameKind && serial >= least && serial <= most;
@@ -981,11 +983,15 @@ public final class LongCarrier {
             textCount = other.textCount;
             ruling = other.ruling;
             saidCount = other.saidCount;
-            System.arraycopy(other.lengths, 0, lengths, 0, MOST_BLOCKS);
-            System.arraycopy(other.reds, 0, reds, 0, MOST_BLOCKS);
+            copyAll(other.lengths, lengths);
+            copyAll(other.reds, reds);
             for (int i = 0; i < texts.length && i < other.texts.length; i++) texts[i] = other.texts[i];
-            System.arraycopy(other.saidKinds, 0, saidKinds, 0, MOST_SAID);
-            System.arraycopy(other.saidLosses, 0, saidLosses, 0, MOST_SAID);
+            copyAll(other.saidKinds, saidKinds);
+            copyAll(other.saidLosses, saidLosses);
+        }
+
+        private static void copyAll(int[] source, int[] target) {
+            System.arraycopy(source, 0, target, 0, Math.min(source.length, target.length));
         }
     }
 
@@ -1510,7 +1516,7 @@ public final class LongCarrier {
             for (int n = 0; n <= MOST_CLAUSES && tokens.sort(at) != TEXT_END; n++) {
                 if (!clause()) return null;
             }
-            if (clauseCount < 0 || 3 * clauseCount > clauses.length) return null;
+            if (clauseCount < 0 || clauseCount > MOST_CLAUSES) return null;
             return new Text(losesCode, waitsCode, Arrays.copyOf(clauses, 3 * clauseCount));
         }
 
@@ -1587,7 +1593,7 @@ public final class LongCarrier {
 
         private void addClause(int sort, int first, int second) {
             int cell = 3 * clauseCount;
-            if (cell < 0 || cell + 2 >= clauses.length) return;
+            if (cell < 0 || cell > clauses.length - 3) return;
             clauses[cell] = sort;
             clauses[cell + 1] = first;
             clauses[cell + 2] = second;
@@ -1595,7 +1601,7 @@ public final class LongCarrier {
         }
 
         private boolean emit(int order, int operand) {
-            if (codeLength < 0 || codeLength + 1 >= code.length) return false;
+            if (codeLength < 0 || codeLength > code.length - 2) return false;
             code[codeLength] = order;
             code[codeLength + 1] = operand;
             codeLength += 2;
@@ -1604,7 +1610,7 @@ public final class LongCarrier {
 
         /** The order at that cell passes over all up to here. */
         private void landHere(int cell) {
-            if (cell >= 0 && cell + 1 < code.length) code[cell + 1] = codeLength;
+            if (cell >= 0 && cell < code.length - 1) code[cell + 1] = codeLength;
         }
 
         private boolean sum(int open) {

@@ -82,7 +82,7 @@ public final class ReadmeTest {
         return switch (text) {
             case "true" -> 1;
             case "false" -> 0;
-            case "NONE" -> LongCarrier.NONE;
+            case "LongCarrier.NONE" -> LongCarrier.NONE;
             default -> Long.decode(text);
         };
     }
